@@ -859,7 +859,7 @@ public final class LastUseDesk {
         int read() {
             program.restart();
             position = 0;
-            skipBlanks();
+            pass(0);
             // Each part that fits is a byte or more, so no text has more parts than bytes.
             for (int part = 0; part < MOST_BYTES && position < tape.length(); part++) {
                 if (!readPart()) {
@@ -888,7 +888,7 @@ public final class LastUseDesk {
 
         private boolean readStep(int most) {
             int letter = tape.byteIn(position);
-            passBytes(1);
+            pass(1);
             int number = readNumber(0, most);
             if (number == NONE || !readSign(';')) {
                 return false;
@@ -898,7 +898,7 @@ public final class LastUseDesk {
         }
 
         private boolean readLoopStart() {
-            passBytes(1);
+            pass(1);
             int times = readNumber(1, MOST_TIMES);
             if (times == NONE || !program.canOpenLoop() || !readSign('{')) {
                 return false;
@@ -912,7 +912,7 @@ public final class LastUseDesk {
                 return false;
             }
             program.closeLoop();
-            passBytes(1);
+            pass(1);
             return true;
         }
 
@@ -920,7 +920,7 @@ public final class LastUseDesk {
             if (tape.byteIn(position) != sign) {
                 return false;
             }
-            passBytes(1);
+            pass(1);
             return true;
         }
 
@@ -937,7 +937,7 @@ public final class LastUseDesk {
             if (number < least || number > most) {
                 return NONE;
             }
-            passBytes(digits);
+            pass(digits);
             return number;
         }
 
@@ -949,12 +949,9 @@ public final class LastUseDesk {
             return digits;
         }
 
-        private void passBytes(int bytes) {
+        /** Passes the bytes of a token, and the blanks behind it. */
+        private void pass(int bytes) {
             position += bytes;
-            skipBlanks();
-        }
-
-        private void skipBlanks() {
             while (position < tape.length() && isBlank(tape.byteIn(position))) {
                 position++;
             }

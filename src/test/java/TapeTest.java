@@ -43,7 +43,14 @@ public final class TapeTest {
         Answers.tooEarly("append beyond", () -> desk.append(0x20, 0, 0, 0, 0x20));
         Answers.due(299, "append of nothing", () -> desk.append(0, 0, 0, 0, 0));
         Answers.due(300, "append up to the end", () -> desk.append(0, 0, 0, 0, 0x78));
-        Answers.tooEarly("append beyond", () -> desk.append(0, 0, 0x20, 0, 0));
+        for (int shift = 0; shift < 32; shift += 8) {
+            int one = 1 << shift;
+            Answers.tooEarly("append beyond", () -> desk.append(one, 0, 0, 0, 0));
+            Answers.tooEarly("append beyond", () -> desk.append(0, one, 0, 0, 0));
+            Answers.tooEarly("append beyond", () -> desk.append(0, 0, one, 0, 0));
+            Answers.tooEarly("append beyond", () -> desk.append(0, 0, 0, one, 0));
+            Answers.tooEarly("append beyond", () -> desk.append(0, 0, 0, 0, one));
+        }
         Answers.due(300, "append of nothing", () -> desk.append(0, 0, 0, 0, 0));
         Answers.illegal("run", desk::run);
         Answers.due(300, "errorPosition", desk::errorPosition);
