@@ -227,7 +227,9 @@ public final class LastUseDesk {
     }
 
     public int leastCache(int hits) throws IllegalArgumentException {
-        requireRange(hits, 0, Integer.MAX_VALUE);
+        if (hits < 0) {
+            throw new IllegalArgumentException("a number is out of range");
+        }
         for (int index = 0; index < CACHES; index++) {
             if (caches[index].hitCount() >= hits) {
                 return index + 1;

@@ -8,12 +8,18 @@ final class Answers {
     }
 
     private static int wrong = 0;
+    private static String heading = "";
 
     private Answers() {
     }
 
     static void due(Object due, String call, Call made) {
         check("answers " + due, call, told(made));
+    }
+
+    /** The same for a call whose answer is here already. */
+    static void is(Object due, String call, Object answer) {
+        check("answers " + due, call, "answers " + answer);
     }
 
     static void thrown(Class<? extends RuntimeException> due, String call, Call made) {
@@ -35,8 +41,20 @@ final class Answers {
     static void check(String due, String call, String told) {
         if (!Objects.equals(due, told)) {
             wrong++;
-            System.out.println(call + " " + told + ", due is: " + due);
+            System.out.println(heading + call + " " + told + ", due is: " + due);
         }
+    }
+
+    /** Prints what differs in a test under a heading; what the test throws ends that test alone. */
+    static void under(String name, Runnable test) {
+        heading = name + ": ";
+        try {
+            test.run();
+        } catch (RuntimeException thrown) {
+            wrong++;
+            System.out.println(heading + "ends with " + thrown);
+        }
+        heading = "";
     }
 
     static String told(Call made) {
