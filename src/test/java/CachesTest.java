@@ -9,8 +9,6 @@ public final class CachesTest {
         figures();
         clearing();
         fullRecord();
-        numbersOutOfRange();
-        throwsChangeNothing();
         Answers.end();
     }
 
@@ -168,34 +166,5 @@ public final class CachesTest {
         Answers.due(0, "errors", desk::errors);
         Answers.due(1000, "clearCaches", desk::clearCaches);
         Answers.due(0, "request", () -> desk.request(51));
-    }
-
-    private static void numbersOutOfRange() {
-        LastUseDesk desk = asked(1, 2, 1);
-        for (int key : new int[] {-1, 100, Integer.MIN_VALUE, Integer.MAX_VALUE}) {
-            Answers.illegal("request", () -> desk.request(key));
-            Answers.illegal("isCached", () -> desk.isCached(1, key));
-        }
-        for (int cache : new int[] {-1, 0, 9, Integer.MIN_VALUE, Integer.MAX_VALUE}) {
-            Answers.illegal("hits", () -> desk.hits(cache));
-            Answers.illegal("cached", () -> desk.cached(cache));
-            Answers.illegal("isCached", () -> desk.isCached(cache, 1));
-            Answers.illegal("cachedAt", () -> desk.cachedAt(cache, 0));
-            Answers.illegal("hitShare", () -> desk.hitShare(cache));
-            Answers.illegal("hitShare without requests", () -> new LastUseDesk().hitShare(cache));
-        }
-        for (int distance : new int[] {-1, 101, Integer.MIN_VALUE, Integer.MAX_VALUE}) {
-            Answers.illegal("nearer", () -> desk.nearer(distance));
-        }
-        Answers.illegal("leastCache", () -> desk.leastCache(-1));
-        Answers.illegal("leastCache", () -> desk.leastCache(Integer.MIN_VALUE));
-    }
-
-    private static void throwsChangeNothing() {
-        LastUseDesk desk = asked(1, 2, 1);
-        Answers.illegal("request", () -> desk.request(100));
-        Answers.illegal("hits", () -> desk.hits(0));
-        Answers.noPlace("cachedAt", () -> desk.cachedAt(1, 1));
-        Answers.due(Desks.state(asked(1, 2, 1)), "state after throws", () -> Desks.state(desk));
     }
 }

@@ -155,7 +155,8 @@ final class CursorSentences {
                         }
                     }
                     Answers.is(-1, "placeOf of the pair", desk.placeOf(map, taken + 1));
-                    Answers.is(taken == 2 ? 0 : 1, "placeOf of another", desk.placeOf(map, taken == 2 ? 1 : 3));
+                    int last = taken == 2 ? 2 : 3;
+                    Answers.is(1, "placeOf of the last that is left", desk.placeOf(map, last));
                 }
             }
         });

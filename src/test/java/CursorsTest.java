@@ -7,9 +7,7 @@ public final class CursorsTest {
         beginningAnew();
         takingOut();
         eachMapHasItsOwn();
-        whatEndsACursor();
         whatLeavesACursor();
-        numbersOutOfRange();
         Answers.end();
     }
 
@@ -96,41 +94,6 @@ public final class CursorsTest {
         Answers.tooEarly("next", () -> desk.next(0));
     }
 
-    private interface Deed {
-        void on(LastUseDesk desk);
-    }
-
-    private static void whatEndsACursor() {
-        ends("put", desk -> desk.put(1, 1, 11));
-        ends("put of a new key", desk -> desk.put(1, 5, 5));
-        ends("putIfAbsent", desk -> desk.putIfAbsent(1, 1, 12));
-        ends("putIfAbsent of a new key", desk -> desk.putIfAbsent(1, 5, 5));
-        ends("get of the one used last", desk -> desk.get(1, 1));
-        ends("get of no key", desk -> desk.get(1, 5));
-        ends("getOrDefault", desk -> desk.getOrDefault(1, 2, 0));
-        ends("getOrDefault of no key", desk -> desk.getOrDefault(1, 5, 0));
-        ends("remove", desk -> desk.remove(1, 99));
-        ends("remove of no key", desk -> desk.remove(1, 5));
-        ends("clear", desk -> desk.clear(1));
-        ends("setBound", desk -> desk.setBound(4));
-        LastUseDesk empty = new LastUseDesk();
-        empty.beginCursor(0);
-        empty.clear(0);
-        Answers.tooEarly("next behind a clear of nothing", () -> empty.next(0));
-    }
-
-    private static void ends(String name, Deed deed) {
-        LastUseDesk desk = threePairs();
-        desk.beginCursor(0);
-        desk.beginCursor(1);
-        desk.next(1);
-        deed.on(desk);
-        Answers.due(false, "hasNext behind " + name, () -> desk.hasNext(1));
-        Answers.tooEarly("next behind " + name, () -> desk.next(1));
-        Answers.tooEarly("takeOut behind " + name, () -> desk.takeOut(1));
-        Answers.due(2022, "next of the free map behind " + name, () -> desk.next(0));
-    }
-
     private static void whatLeavesACursor() {
         LastUseDesk desk = threePairs();
         desk.beginCursor(1);
@@ -152,15 +115,5 @@ public final class CursorsTest {
         Answers.illegal("put out of range", () -> desk.put(1, 2, 1000));
         Answers.due(2, "takeOut", () -> desk.takeOut(1));
         Answers.due(99999, "next", () -> desk.next(1));
-    }
-
-    private static void numbersOutOfRange() {
-        LastUseDesk desk = threePairs();
-        for (int map : new int[] {-1, 2, Integer.MIN_VALUE, Integer.MAX_VALUE}) {
-            Answers.illegal("beginCursor", () -> desk.beginCursor(map));
-            Answers.illegal("hasNext", () -> desk.hasNext(map));
-            Answers.illegal("next", () -> desk.next(map));
-            Answers.illegal("takeOut", () -> desk.takeOut(map));
-        }
     }
 }

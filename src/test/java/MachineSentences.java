@@ -70,7 +70,9 @@ final class MachineSentences {
             for (int frames = 1; frames <= 8; frames++) {
                 LastUseDesk desk = new LastUseDesk();
                 desk.setFrames(frames);
-                Desks.run(desk, Desks.NINE_PAGES.substring(0, frames < 4 ? 3 * frames : 9 + 4 * (frames - 3)));
+                for (int page = 0; page < frames; page++) {
+                    Desks.run(desk, "l" + 4 * page + ";");
+                }
                 Answers.is(frames, "resident in " + frames + " frames", desk.resident());
                 Answers.is(0, "residentAt of the eldest", desk.residentAt(0));
                 Desks.run(desk, "l63;");
@@ -136,7 +138,7 @@ final class MachineSentences {
             Answers.is(7, "discAt", full.discAt(0));
             Answers.is(1, "discAt", full.discAt(1));
             Answers.is(4, "discAt of a page that stays", full.discAt(4));
-            Desks.run(full, "l0;l4;l8;l12;l16;l20;l24;l28;l32;");
+            Desks.run(full, Desks.NINE_PAGES);
             Answers.is(8, "writes", full.writes());
             Desks.run(full, Desks.NINE_PAGES + Desks.NINE_PAGES);
             Answers.is(8, "writes of clean pages", full.writes());

@@ -10,7 +10,6 @@ public final class MachineTest {
         frames();
         words();
         wrapping();
-        numbersOutOfRange();
         Answers.end();
     }
 
@@ -175,16 +174,5 @@ public final class MachineTest {
                 () -> ran("c999;x9{s0;a0;}x9{s0;a0;}x4{s0;a0;}").accumulator());
         LastUseDesk desk = ran("c1;" + doubling + "s9;");
         Answers.due(Integer.MIN_VALUE, "wordAt", () -> desk.wordAt(9));
-    }
-
-    private static void numbersOutOfRange() {
-        LastUseDesk desk = new LastUseDesk();
-        for (int address : new int[] {-1, 64, Integer.MIN_VALUE, Integer.MAX_VALUE}) {
-            Answers.illegal("wordAt", () -> desk.wordAt(address));
-            Answers.illegal("discAt", () -> desk.discAt(address));
-        }
-        for (int page : new int[] {-1, 16, Integer.MIN_VALUE, Integer.MAX_VALUE}) {
-            Answers.illegal("isDirty", () -> desk.isDirty(page));
-        }
     }
 }

@@ -124,40 +124,52 @@ final class MapSentences {
         });
     }
 
+    private interface Put {
+        int on(LastUseDesk desk, int map, int key, int value);
+    }
+
     private static void putting() {
-        Sentences.test(2, BEFORE, () -> {
+        before(2, LastUseDesk::put, 999);
+        before(3, LastUseDesk::putIfAbsent, 0);
+        puttingOut(2, LastUseDesk::put);
+        puttingOut(3, LastUseDesk::putIfAbsent);
+    }
+
+    /** What is there after 0 and then 999 were put for a key tells whether the later one counts. */
+    private static void before(int promise, Put put, int thereThen) {
+        Sentences.test(promise, BEFORE, () -> {
             for (int map : MAPS) {
                 LastUseDesk desk = new LastUseDesk();
-                Answers.is(-1, "put in an empty map", desk.put(map, 0, 0));
-                Answers.is(0, "put of the only key", desk.put(map, 0, 999));
-                Answers.is(999, "put of the only key", desk.put(map, 0, 1));
+                Answers.is(-1, "a new key of an empty map", put.on(desk, map, 0, 0));
+                Answers.is(0, "the only key", put.on(desk, map, 0, 999));
+                Answers.is(thereThen, "the only key", put.on(desk, map, 0, 1));
             }
             LastUseDesk full = Desks.fullMaps();
             for (int key = 0; key < 100; key++) {
-                Answers.is(10 * key, "put in the full free map", full.put(0, key, 5));
+                Answers.is(10 * key, "a key of the full free map", put.on(full, 0, key, 5));
             }
-            Answers.is(0, "put of the eldest in the full bounded map", full.put(1, 0, 5));
-            Answers.is(190, "put in the full bounded map", full.put(1, 19, 5));
-            Answers.is(0, "putOut", full.putOut());
-            Answers.is(-1, "put of a new key in the full bounded map", full.put(1, 20, 5));
-            Answers.is(-1, "put of the key that was put out", full.put(1, 1, 5));
+            Answers.is(0, "the eldest key of the full bounded map", put.on(full, 1, 0, 5));
+            Answers.is(190, "a key of the full bounded map", put.on(full, 1, 19, 5));
+            Answers.is(-1, "a new key of the full bounded map", put.on(full, 1, 20, 5));
+            Answers.is(-1, "the key that was put out", put.on(full, 1, 1, 5));
         });
-        Sentences.test(3, BEFORE, () -> {
-            for (int map : MAPS) {
-                LastUseDesk desk = new LastUseDesk();
-                Answers.is(-1, "putIfAbsent in an empty map", desk.putIfAbsent(map, 0, 0));
-                Answers.is(0, "putIfAbsent of the only key", desk.putIfAbsent(map, 0, 999));
-                Answers.is(0, "putIfAbsent of the only key", desk.putIfAbsent(map, 0, 1));
-            }
-            LastUseDesk full = Desks.fullMaps();
-            for (int key = 0; key < 100; key++) {
-                Answers.is(10 * key, "putIfAbsent in the full free map", full.putIfAbsent(0, key, 5));
-            }
-            Answers.is(0, "putIfAbsent of the eldest in the full map", full.putIfAbsent(1, 0, 5));
-            Answers.is(190, "putIfAbsent in the full map", full.putIfAbsent(1, 19, 5));
-            Answers.is(0, "putOut", full.putOut());
-            Answers.is(-1, "putIfAbsent of a new key in the full map", full.putIfAbsent(1, 20, 5));
-            Answers.is(-1, "putIfAbsent of the key that was put out", full.putIfAbsent(1, 1, 5));
+    }
+
+    private static void puttingOut(int promise, Put put) {
+        Sentences.test(promise, PUT_OUT, () -> {
+            LastUseDesk desk = Desks.fullMaps();
+            put.on(desk, 1, 0, 5);
+            put.on(desk, 1, 19, 5);
+            Answers.is(20, "size behind keys that are there", desk.size(1));
+            Answers.is(0, "putOut behind keys that are there", desk.putOut());
+            put.on(desk, 1, 20, 5);
+            Answers.is(20, "size behind a new key", desk.size(1));
+            Answers.is(1, "putOut behind a new key", desk.putOut());
+            Answers.is(1, "lastPutOut", desk.lastPutOut());
+            Answers.is(2, "keyAt of the eldest", desk.keyAt(1, 0));
+            Answers.is(20, "keyAt of the one used last", desk.keyAt(1, 19));
+            put.on(desk, 0, 20, 5);
+            Answers.is(100, "size of the free map", desk.size(0));
         });
     }
 
@@ -300,25 +312,6 @@ final class MapSentences {
     }
 
     private static void putOut() {
-        Sentences.test(2, PUT_OUT, () -> {
-            LastUseDesk desk = Desks.fullMaps();
-            desk.get(1, 0);
-            desk.put(1, 19, 5);
-            Answers.is(0, "putOut behind a put of a key that is there", desk.putOut());
-            desk.put(1, 20, 5);
-            Answers.is(1, "lastPutOut", desk.lastPutOut());
-            Answers.is(20, "size", desk.size(1));
-            Answers.is(2, "keyAt", desk.keyAt(1, 0));
-        });
-        Sentences.test(3, PUT_OUT, () -> {
-            LastUseDesk desk = Desks.fullMaps();
-            desk.putIfAbsent(1, 0, 5);
-            Answers.is(0, "putOut behind a putIfAbsent of a key that is there", desk.putOut());
-            desk.putIfAbsent(1, 20, 5);
-            Answers.is(1, "lastPutOut", desk.lastPutOut());
-            Answers.is(20, "size", desk.size(1));
-            Answers.is(2, "keyAt", desk.keyAt(1, 0));
-        });
         Sentences.test(2, "(A pair that was just put is the one used last.)", () -> {
             LastUseDesk desk = new LastUseDesk();
             desk.setBound(1);

@@ -12,8 +12,6 @@ public final class MapsTest {
         places();
         sums();
         puttingOut();
-        numbersOutOfRange();
-        throwsChangeNothing();
         Answers.end();
     }
 
@@ -209,63 +207,5 @@ public final class MapsTest {
         desk.remove(1, 40);
         Answers.due(2, "putOut", desk::putOut);
         Answers.due(30, "lastPutOut", desk::lastPutOut);
-    }
-
-    private static void numbersOutOfRange() {
-        LastUseDesk desk = new LastUseDesk();
-        for (int map : new int[] {-1, 2, Integer.MIN_VALUE, Integer.MAX_VALUE}) {
-            Answers.illegal("put", () -> desk.put(map, 1, 1));
-            Answers.illegal("putIfAbsent", () -> desk.putIfAbsent(map, 1, 1));
-            Answers.illegal("get", () -> desk.get(map, 1));
-            Answers.illegal("getOrDefault", () -> desk.getOrDefault(map, 1, 1));
-            Answers.illegal("remove", () -> desk.remove(map, 1));
-            Answers.illegal("clear", () -> desk.clear(map));
-            Answers.illegal("hasKey", () -> desk.hasKey(map, 1));
-            Answers.illegal("hasValue", () -> desk.hasValue(map, 1));
-            Answers.illegal("size", () -> desk.size(map));
-            Answers.illegal("keyAt", () -> desk.keyAt(map, 0));
-            Answers.illegal("valueAt", () -> desk.valueAt(map, 0));
-            Answers.illegal("placeOf", () -> desk.placeOf(map, 1));
-            Answers.illegal("sum", () -> desk.sum(map));
-        }
-        for (int key : new int[] {-1, 100, Integer.MIN_VALUE, Integer.MAX_VALUE}) {
-            Answers.illegal("put", () -> desk.put(0, key, 1));
-            Answers.illegal("putIfAbsent", () -> desk.putIfAbsent(0, key, 1));
-            Answers.illegal("get", () -> desk.get(0, key));
-            Answers.illegal("getOrDefault", () -> desk.getOrDefault(0, key, 1));
-            Answers.illegal("remove", () -> desk.remove(0, key));
-            Answers.illegal("hasKey", () -> desk.hasKey(0, key));
-            Answers.illegal("placeOf", () -> desk.placeOf(0, key));
-        }
-        for (int value : new int[] {-1, 1000, Integer.MIN_VALUE, Integer.MAX_VALUE}) {
-            Answers.illegal("put", () -> desk.put(0, 1, value));
-            Answers.illegal("putIfAbsent", () -> desk.putIfAbsent(0, 1, value));
-            Answers.illegal("hasValue", () -> desk.hasValue(0, value));
-        }
-        Answers.due(-1, "put of the greatest", () -> desk.put(0, 99, 999));
-        Answers.due(true, "hasValue of the greatest", () -> desk.hasValue(0, 999));
-        Answers.due(false, "hasValue of the least", () -> desk.hasValue(0, 0));
-    }
-
-    private static void throwsChangeNothing() {
-        LastUseDesk desk = threePairs(1);
-        desk.put(0, 3, 3);
-        desk.beginCursor(0);
-        desk.beginCursor(1);
-        Answers.illegal("put", () -> desk.put(1, 10, 1000));
-        Answers.illegal("put", () -> desk.put(1, 100, 0));
-        Answers.illegal("putIfAbsent", () -> desk.putIfAbsent(1, 10, -1));
-        Answers.illegal("get", () -> desk.get(1, -1));
-        Answers.illegal("getOrDefault", () -> desk.getOrDefault(1, 100, 0));
-        Answers.illegal("remove", () -> desk.remove(1, 100));
-        Answers.illegal("clear", () -> desk.clear(2));
-        Answers.illegal("setBound", () -> desk.setBound(0));
-        LastUseDesk twin = threePairs(1);
-        twin.put(0, 3, 3);
-        twin.beginCursor(0);
-        twin.beginCursor(1);
-        Answers.due(Desks.state(twin), "state after throws", () -> Desks.state(desk));
-        Answers.due(10100, "the cursor goes on", () -> desk.next(1));
-        Answers.due(4, "the bound is as it was", () -> desk.setBound(1));
     }
 }

@@ -64,6 +64,14 @@ final class TextSentences {
             Answers.is(9, "accumulator", full.accumulator());
             Answers.is(0, "clearTape", full.clearTape());
             Answers.is(0, "run of a tape full of blanks", Desks.blanks(300).run());
+            for (String text : new String[] {"x1{", "c1;x2{c2;", "x1{x1{x1{x1{x1{", "x9{x9{c", "c1"}) {
+                LastUseDesk desk = new LastUseDesk();
+                Desks.type(desk, text);
+                Answers.illegal("run of " + text, desk::run);
+                Answers.is(1, "the next run behind " + text, Desks.run(desk, "c7;"));
+                Answers.is(-1, "errorPosition behind it", desk.errorPosition());
+                Answers.is(7, "accumulator behind it", desk.accumulator());
+            }
         });
     }
 
