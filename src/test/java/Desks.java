@@ -162,7 +162,7 @@ final class Desks {
 
     /**
      * All that a desk tells, and then what its use alone brings to light: whether its cursors give
-     * and take out, what is on the tape, the bound and the frames. Some 400 calls.
+     * and take out, what is on the tape, the bound and the frames. About 330 calls.
      */
     static String whole(LastUseDesk desk) {
         StringBuilder whole = new StringBuilder(state(desk));
