@@ -2,6 +2,7 @@ import java.io.IOException;
 import java.nio.file.Files;
 import java.nio.file.Path;
 import java.util.ArrayList;
+import java.util.Comparator;
 import java.util.HashSet;
 import java.util.List;
 import java.util.Set;
@@ -14,6 +15,8 @@ final class Sentences {
     private static final int PROMISES = 49;
     private static final Path PATH = Path.of("../shared/DOC.md");
     private static final String DOCUMENT = read();
+    private static final String FREE =
+            "\\b(and|or|The constants|what later calls answer is free)\\b";
     private static final Set<String> NAMES = new HashSet<>();
     private static final Set<String> QUOTES = new HashSet<>();
 
@@ -30,49 +33,72 @@ final class Sentences {
         }
     }
 
-    /** Each number, answer and exception of each promise, and each sentence of the terms. */
+    /** Each line of the document from the first one on, but for titles and what it doesn't promise. */
     static void checkThatNoneIsMissing() {
         if (DOCUMENT.isEmpty()) {
             System.out.println("there is no " + PATH + " to hold the sentences against");
             return;
         }
+        for (String sentence : sentences(terms())) {
+            checkQuoted(sentence, sentence, QUOTES);
+        }
         for (int promise = 1; promise <= PROMISES; promise++) {
-            for (String sentence : linesToTest(promise)) {
-                String name = name(promise, sentence);
-                Answers.check("is tested", name, NAMES.contains(name) ? "is tested" : "is not");
-            }
-        }
-        for (String sentence : sentencesOfTerms()) {
-            boolean tested = QUOTES.stream().anyMatch(sentence::contains);
-            Answers.check("is tested", sentence, tested ? "is tested" : "is not");
+            checkPromise(promise);
         }
     }
 
-    private static List<String> linesToTest(int promise) {
-        List<String> lines = new ArrayList<>();
-        for (String line : promise(promise).split("\n")) {
-            if (line.startsWith("- ")) {
-                lines.add(line.substring(2));
-            } else if (line.startsWith("Returns ") || line.startsWith("Throws ")) {
-                lines.add(line);
-            }
-        }
-        if (lines.isEmpty() && promise > 1) {
+    /** A promise's lines each have a test of their own; its opening may be quoted in parts. */
+    private static void checkPromise(int promise) {
+        String[] lines = promise(promise).split("\n");
+        if (lines.length < 3) {
             Answers.check("says something", "promise " + promise, "is not found");
+            return;
         }
-        return lines;
+        Set<String> quotes = new HashSet<>(QUOTES);
+        quotes.removeIf(quote -> !NAMES.contains(name(promise, quote)));
+        String opening = lines[2].replaceFirst("^\\w.*?: ", "");
+        for (String sentence : sentences(opening)) {
+            checkQuoted(name(promise, sentence), sentence, quotes);
+        }
+        for (int line = 3; line < lines.length; line++) {
+            String name = name(promise, lines[line].replaceFirst("^- ", ""));
+            boolean tested = lines[line].isEmpty() || NAMES.contains(name);
+            Answers.check("is tested", name, tested ? "is tested" : "is not");
+        }
     }
 
-    private static List<String> sentencesOfTerms() {
+    /** That all words of a sentence are quoted by tests, but for those that only join its parts. */
+    private static void checkQuoted(String name, String sentence, Set<String> quotes) {
+        List<String> longestFirst = new ArrayList<>(quotes);
+        longestFirst.sort(Comparator.comparing(String::length).reversed());
+        String rest = sentence;
+        for (String quote : longestFirst) {
+            rest = rest.replace(quote, " ");
+        }
+        rest = rest.replaceAll(FREE, " ").replaceAll("[^A-Za-z0-9]+", " ").strip();
+        Answers.check("is tested", name, rest.isEmpty() ? "is tested" : "is not: " + rest);
+    }
+
+    private static List<String> sentences(String text) {
         List<String> sentences = new ArrayList<>();
-        for (String piece : terms().substring(terms().indexOf("## Terms"))
-                .split("(?<=\\.|\\.\\))\\s+")) {
-            boolean isTitle = piece.contains("## ") || piece.matches("\\d?\\.?");
-            if (!isTitle && !piece.contains("the interface says")) {
-                sentences.add(piece);
+        for (String line : text.split("\n")) {
+            boolean isTitle = line.matches("#.*|\\d\\. .*|java|text|\\}|\\s*");
+            if (!isTitle) {
+                sentences.addAll(List.of(line.strip().split("(?<=\\.|\\.\\))\\s+")));
             }
         }
         return sentences;
+    }
+
+    /** Lines of the document from its first one up to the promises, without blanks at their ends. */
+    static List<String> linesOfTerms(String pattern) {
+        List<String> lines = new ArrayList<>();
+        for (String line : DOCUMENT.isEmpty() ? new String[0] : terms().split("\n")) {
+            if (line.strip().matches(pattern)) {
+                lines.add(line.strip());
+            }
+        }
+        return lines;
     }
 
     private static String name(int promise, String sentence) {
